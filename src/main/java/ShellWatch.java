@@ -1445,21 +1445,31 @@ public final class ShellWatch {
 
         /** Gives false if the script ends early. */
         private boolean performRange(Game game, int from, int to, int depth) {
-            if (depth > MOST_DEPTH) {
-                return false;
-            }
             int at = from;
             for (int i = 0; i < MOST_COMMANDS && at < to; i++) {
                 boolean isRepeat = words[at] == Token.REPEAT;
-                int next = isRepeat ? ends[at] : at + 1;
-                int times = isRepeat ? firsts[at] : 1;
-                for (int time = 0; time < times; time++) {
-                    boolean isDone = isRepeat ? performRange(game, at + 1, next, depth + 1) : performOne(game, at);
-                    if (!isDone) {
-                        return false;
-                    }
+                boolean isDone = isRepeat ? performRepeat(game, at, depth) : performOne(game, at);
+                if (!isDone) {
+                    return false;
                 }
-                at = next;
+                at = isRepeat ? ends[at] : at + 1;
+            }
+            return true;
+        }
+
+        private boolean performRepeat(Game game, int at, int depth) {
+            if (depth >= MOST_DEPTH) {
+                return false;
+            }
+            for (int time = 0; time < firsts[at]; time++) {
+                int doneBefore = done;
+                if (!performRange(game, at + 1, ends[at], depth + 1)) {
+                    return false;
+                }
+                if (done == doneBefore) {
+                    // Nothing but empty repeats in it: once more would again do nothing.
+                    return true;
+                }
             }
             return true;
         }

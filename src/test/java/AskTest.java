@@ -181,6 +181,7 @@ final class AskTest {
         odds("10", 9);
         odds("9", 9);
         odds("((((steps))))", 3);
+        odds("9-1*(8-1*(7-1*(6-1*(5-1*2))))", 5);
         ShellWatch watch = Check.loaded("shells 3;odds chance/10-1;");
         watch.swap(0, 1);
         Check.is("odds of 80 in 100", watch.odds(1), 7);

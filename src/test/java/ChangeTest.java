@@ -154,6 +154,13 @@ final class ChangeTest {
         Check.is("halved", Check.beliefs(watch), "750926 30325 0");
         watch.rest();
         Check.is("behind a rest", Check.beliefs(watch), "750926 30325 0");
+        ShellWatch bound = Check.loaded("shells 3;trust 48;calm 3;blink 3 3;");
+        Check.run(bound, "feint 2 1;swap 2 0;swap 1 2;rest;feint 1 2;feint 1 2;");
+        Check.is("1000000 is not halved", Check.beliefs(bound), "1000000 671857 671893 0");
+        ShellWatch more = Check.loaded("shells 2;trust 49;calm 3;blink 1 1;blink 3 4;");
+        // 1000001 and 999999 ahead of the halving
+        Check.run(more, "swap 0 1;rest;feint 0 1;rest;rest;swap 0 1;");
+        Check.is("1000001 is halved", Check.beliefs(more), "500001 500000 0");
         ShellWatch even = Check.loaded("shells 2;trust 99;");
         for (int i = 0; i < 200; i++) {
             even.swap(0, 1);

@@ -148,6 +148,9 @@ final class TextTest {
         setup("shells ;", ShellWatch.SYNTAX_ERROR, 7);
         setup("shells 3;;", ShellWatch.SYNTAX_ERROR, 9);
         setup("shellsx 3;", ShellWatch.SYNTAX_ERROR, 0);
+        setup("shellsz 3;", ShellWatch.SYNTAX_ERROR, 0);
+        setup("shells{ 3;", ShellWatch.SYNTAX_ERROR, 6);
+        setup("shells` 3;", ShellWatch.SYNTAX_ERROR, 6);
         setup("ball 1;shells 3;", ShellWatch.SYNTAX_ERROR, 0);
         setup("shells 3;shells 3;", ShellWatch.SYNTAX_ERROR, 9);
         setup("shells 3;steps 3;", ShellWatch.SYNTAX_ERROR, 9);
