@@ -27,7 +27,7 @@ final class AskTest {
     }
 
     private static void newObject() {
-        ShellWatch watch = new ShellWatch();
+        Watch watch = new Watch();
         int[] due = {3, 0, 0, 0, 80, 1, 0, 100, 0, 0, 1, 1, 0};
         for (int what = 0; what < due.length; what++) {
             Check.is("state " + what + " of a new object", watch.state(what), due[what]);
@@ -38,14 +38,14 @@ final class AskTest {
         Check.is("nothing to undo in a new object", watch.undo(), -1);
         Check.is("odds of a new object", watch.odds(2), 2);
         Check.is("buffer of a new object is empty", watch.append(0, 0, 0, 0, 0), 20);
-        new ShellWatch().swap(0, 1);
-        Check.is("another object", new ShellWatch().state(1), 0);
+        new Watch().swap(0, 1);
+        Check.is("another object", new Watch().state(1), 0);
     }
 
     private static void state() {
-        ShellWatch watch = Check.loaded("shells 4;ball 3;trust 60;calm 2;sly 5;purse 50;blink 1 2;odds 3;");
+        Watch watch = Check.loaded("shells 4;ball 3;trust 60;calm 2;sly 5;purse 50;blink 1 2;odds 3;");
         for (int what : new int[] {-1, 13, Integer.MIN_VALUE, Integer.MAX_VALUE}) {
-            Check.refused("state(" + what + ")", watch, ILLEGAL, () -> watch.state(what));
+            Check.refused("state(" + what + ")", watch, ILLEGAL, x -> x.state(what));
         }
         watch.swap(0, 3);
         watch.rest();
@@ -66,13 +66,13 @@ final class AskTest {
     }
 
     private static void shell() {
-        ShellWatch watch = Check.loaded("shells 3;ball 1;scratch 2;");
+        Watch watch = Check.loaded("shells 3;ball 1;scratch 2;");
         for (int place : new int[] {-1, 3, Integer.MIN_VALUE, Integer.MAX_VALUE}) {
-            Check.refused("shell(" + place + ", 0)", watch, NO_PLACE, () -> watch.shell(place, 0));
-            Check.refused("shell(" + place + ", 4)", watch, NO_PLACE, () -> watch.shell(place, 4));
+            Check.refused("shell(" + place + ", 0)", watch, NO_PLACE, x -> x.shell(place, 0));
+            Check.refused("shell(" + place + ", 4)", watch, NO_PLACE, x -> x.shell(place, 4));
         }
-        Check.refused("shell(0, -1)", watch, ILLEGAL, () -> watch.shell(0, -1));
-        Check.refused("shell(2, 4)", watch, ILLEGAL, () -> watch.shell(2, 4));
+        Check.refused("shell(0, -1)", watch, ILLEGAL, x -> x.shell(0, -1));
+        Check.refused("shell(2, 4)", watch, ILLEGAL, x -> x.shell(2, 4));
         watch.swap(1, 2);
         watch.swap(0, 1);
         watch.feint(0, 2);
@@ -85,7 +85,7 @@ final class AskTest {
     }
 
     private static void beliefAndChance() {
-        ShellWatch watch = new ShellWatch();
+        Watch watch = new Watch();
         watch.feint(0, 1);
         watch.swap(1, 2);
         int[] due = {5, 4, 16, 0};
@@ -94,22 +94,22 @@ final class AskTest {
             Check.is("chance " + at, watch.chance(at), due[at] / 25.0);
         }
         for (int at : new int[] {-1, 4, Integer.MIN_VALUE, Integer.MAX_VALUE}) {
-            Check.refused("belief(" + at + ")", watch, ILLEGAL, () -> watch.belief(at));
-            Check.refused("chance(" + at + ")", watch, ILLEGAL, () -> watch.chance(at));
+            Check.refused("belief(" + at + ")", watch, ILLEGAL, x -> x.belief(at));
+            Check.refused("chance(" + at + ")", watch, ILLEGAL, x -> x.chance(at));
         }
-        ShellWatch third = Check.loaded("shells 2;trust 33;");
+        Watch third = Check.loaded("shells 2;trust 33;");
         third.swap(0, 1);
         Check.is("chance is a double", third.chance(1), 0.33);
     }
 
     private static void doubt() {
-        ShellWatch watch = new ShellWatch();
+        Watch watch = new Watch();
         Check.is("no doubt", watch.doubt(), 0.0f);
         watch.swap(0, 1);
         Check.is("doubt", watch.doubt(), 1.0f - 4.0f / 5.0f);
         watch.swap(1, 2);
         Check.is("more doubt", watch.doubt(), 1.0f - 16.0f / 25.0f);
-        ShellWatch hand = Check.loaded("shells 2;sly 9;blink 0 9;");
+        Watch hand = Check.loaded("shells 2;sly 9;blink 0 9;");
         hand.steal(0);
         hand.peek(0);
         Check.is("the hand counts", Check.beliefs(hand), "0 1 9");
@@ -117,14 +117,14 @@ final class AskTest {
     }
 
     private static void guess() {
-        ShellWatch watch = new ShellWatch();
+        Watch watch = new Watch();
         Check.is("guess at first", watch.guess(), 0);
         watch.swap(0, 2);
         Check.is("guess of the greatest", watch.guess(), 2);
-        ShellWatch equal = Check.loaded("shells 4;ball 3;trust 50;");
+        Watch equal = Check.loaded("shells 4;ball 3;trust 50;");
         equal.swap(1, 3);
         Check.is("guess of the smallest of equals", equal.guess(), 1);
-        ShellWatch hand = Check.loaded("shells 3;sly 1;blink 0 9;");
+        Watch hand = Check.loaded("shells 3;sly 1;blink 0 9;");
         hand.steal(0);
         hand.peek(0);
         hand.peek(1);
@@ -134,7 +134,7 @@ final class AskTest {
     }
 
     private static void blinks() {
-        ShellWatch watch = Check.loaded("shells 3;blink 2 4;blink 4 6;blink 9999 9999;");
+        Watch watch = Check.loaded("shells 3;blink 2 4;blink 4 6;blink 9999 9999;");
         for (int step = 0; step <= 10; step++) {
             Check.is("blinks " + step, watch.blinks(step), step >= 2 && step <= 6);
         }
@@ -142,13 +142,13 @@ final class AskTest {
         Check.is("blinks 9999", watch.blinks(9999), true);
         Check.is("blinks 20000", watch.blinks(20000), false);
         for (int step : new int[] {-1, 20001, Integer.MIN_VALUE, Integer.MAX_VALUE}) {
-            Check.refused("blinks(" + step + ")", watch, ILLEGAL, () -> watch.blinks(step));
+            Check.refused("blinks(" + step + ")", watch, ILLEGAL, x -> x.blinks(step));
         }
     }
 
     private static void odds(String sum, int due) {
         // 5 shells, 3 steps, 2 of them at a blink, and no chance at place 1
-        ShellWatch watch = Check.loaded("shells 5;blink 1 2;odds " + sum + ";");
+        Watch watch = Check.loaded("shells 5;blink 1 2;odds " + sum + ";");
         watch.rest();
         watch.rest();
         watch.rest();
@@ -182,19 +182,19 @@ final class AskTest {
         odds("9", 9);
         odds("((((steps))))", 3);
         odds("9-1*(8-1*(7-1*(6-1*(5-1*2))))", 5);
-        ShellWatch watch = Check.loaded("shells 3;odds chance/10-1;");
+        Watch watch = Check.loaded("shells 3;odds chance/10-1;");
         watch.swap(0, 1);
         Check.is("odds of 80 in 100", watch.odds(1), 7);
         Check.is("odds of 20 in 100", watch.odds(0), 1);
         Check.is("odds of 0 in 100", watch.odds(2), 0);
-        ShellWatch third = Check.loaded("shells 3;calm 1;blink 0 0;odds chance-30;");
+        Watch third = Check.loaded("shells 3;calm 1;blink 0 0;odds chance-30;");
         third.rest();
         third.peek(1);
         Check.is("chance is rounded toward zero", third.odds(2), 3);
-        ShellWatch none = Check.loaded("shells 8;");
+        Watch none = Check.loaded("shells 8;");
         Check.is("odds without a statement", none.odds(7), 7);
         for (int place : new int[] {-1, 8, Integer.MIN_VALUE, Integer.MAX_VALUE}) {
-            Check.refused("odds(" + place + ")", none, NO_PLACE, () -> none.odds(place));
+            Check.refused("odds(" + place + ")", none, NO_PLACE, x -> x.odds(place));
         }
     }
 
@@ -210,7 +210,7 @@ final class AskTest {
     }
 
     private static void fewest() {
-        ShellWatch watch = Check.loaded("shells 6;");
+        Watch watch = Check.loaded("shells 6;");
         Check.is("fewest at first", watch.fewest(), 0);
         watch.feint(0, 1);
         Check.is("fewest behind a feint", watch.fewest(), 0);
@@ -237,7 +237,7 @@ final class AskTest {
             {1, 10, 36, 60, 60, 60, 60},
             {1, 15, 86, 240, 360, 360, 360}};
         for (int shells = 2; shells <= 6; shells++) {
-            ShellWatch watch = Check.loaded("shells " + shells + ";");
+            Watch watch = Check.loaded("shells " + shells + ";");
             for (int swaps = 0; swaps <= 6; swaps++) {
                 Check.is("rows " + swaps + " of " + shells, watch.rows(swaps), due[shells - 2][swaps]);
             }
@@ -245,9 +245,9 @@ final class AskTest {
             Check.is("rows of a row swapped", watch.rows(2), due[shells - 2][2]);
         }
         for (int shells = 3; shells <= 8; shells++) {
-            ShellWatch watch = Check.loaded("shells " + shells + ";");
-            Check.refused("rows(-1)", watch, ILLEGAL, () -> watch.rows(-1));
-            Check.refused("rows(7)", watch, ILLEGAL, () -> watch.rows(7));
+            Watch watch = Check.loaded("shells " + shells + ";");
+            Check.refused("rows(-1)", watch, ILLEGAL, x -> x.rows(-1));
+            Check.refused("rows(7)", watch, ILLEGAL, x -> x.rows(7));
             if (shells > 6) {
                 Check.is("rows of many", watch.rows(0), -2);
                 Check.is("rows of many", watch.rows(6), -2);
@@ -255,16 +255,16 @@ final class AskTest {
         }
     }
 
-    private static void fool(String what, ShellWatch watch, int... due) {
+    private static void fool(String what, Watch watch, int... due) {
         for (int i = 0; i < due.length; i++) {
             Check.is("fool " + i + " of " + what, watch.fool(i), due[i]);
         }
-        Check.refused("fool(-1)", watch, ILLEGAL, () -> watch.fool(-1));
-        Check.refused("fool(5)", watch, ILLEGAL, () -> watch.fool(5));
+        Check.refused("fool(-1)", watch, ILLEGAL, x -> x.fool(-1));
+        Check.refused("fool(5)", watch, ILLEGAL, x -> x.fool(5));
     }
 
     private static void fool() {
-        fool("a new object", new ShellWatch(), 1, 0, 1, 1, 5);
+        fool("a new object", new Watch(), 1, 0, 1, 1, 5);
         fool("little trust", Check.loaded("shells 3;trust 20;"), 0, 0, 1, 1, 5);
         fool("a swap ahead of a feint", Check.loaded("shells 3;trust 50;"), 0, 0, 1, 1, 2);
         fool("the smaller places", Check.loaded("shells 4;ball 2;"), 1, 0, 2, 1, 5);
@@ -279,28 +279,28 @@ final class AskTest {
         fool("a blink and calm", Check.loaded("shells 3;calm 9;blink 0 0;"), 0, 0, 1, 1, 12);
         fool("a blink and scratches", Check.loaded("shells 3;scratch 0;blink 0 0;"), 0, 0, 1, 1, 1);
         fool("a blink at another step", Check.loaded("shells 3;blink 1 1;"), 1, 0, 1, 1, 5);
-        ShellWatch hand = Check.loaded("shells 2;sly 1;blink 0 0;trust 70;");
+        Watch hand = Check.loaded("shells 2;sly 1;blink 0 0;trust 70;");
         hand.steal(0);
         Check.is("beliefs with the ball in the hand", Check.beliefs(hand), "4 1 1");
         fool("the ball in the hand", hand, 0, 0, 1, 10, 60);
     }
 
     private static void caught() {
-        ShellWatch watch = new ShellWatch();
+        Watch watch = new Watch();
         Check.is("caught 1", watch.caught(1), 0);
         for (int steps : new int[] {0, -1, 21, Integer.MIN_VALUE, Integer.MAX_VALUE}) {
-            Check.refused("caught(" + steps + ")", watch, ILLEGAL, () -> watch.caught(steps));
+            Check.refused("caught(" + steps + ")", watch, ILLEGAL, x -> x.caught(steps));
         }
         // Just betrayed moves can be made: the watcher follows each.
-        ShellWatch sure = Check.loaded("shells 2;scratch 0;");
+        Watch sure = Check.loaded("shells 2;scratch 0;");
         for (int steps = 1; steps <= 20; steps++) {
             Check.is("always caught", sure.caught(steps), steps);
         }
         // caught is told by fool and guess
         for (String text : new String[] {"shells 3;", "shells 5;ball 2;trust 60;blink 2 3;scratch 4;",
             "shells 8;trust 51;calm 3;sly 2;blink 1 9;ball 6;", "shells 4;trust 30;"}) {
-            ShellWatch foretold = Check.loaded(text);
-            ShellWatch made = Check.loaded(text);
+            Watch foretold = Check.loaded(text);
+            Watch made = Check.loaded(text);
             int times = 0;
             for (int steps = 1; steps <= 20; steps++) {
                 int a = made.fool(1);
@@ -311,16 +311,16 @@ final class AskTest {
                 Check.is("caught " + steps + " of " + text, foretold.caught(steps), times);
             }
         }
-        ShellWatch hand = Check.loaded("shells 2;sly 1;blink 0 0;");
+        Watch hand = Check.loaded("shells 2;sly 1;blink 0 0;");
         hand.steal(0);
         Check.is("no ball to catch", hand.caught(20), 0);
     }
 
     private static void suspect() {
         Class<?> none = NoSuchElementException.class;
-        ShellWatch watch = new ShellWatch();
+        Watch watch = new Watch();
         Check.is("suspect at first", watch.suspect(0), 0);
-        Check.refused("suspect(1) at first", watch, none, () -> watch.suspect(1));
+        Check.refused("suspect(1) at first", watch, none, x -> x.suspect(1));
         watch.swap(0, 1);
         watch.swap(1, 2);
         Check.is("beliefs to suspect", Check.beliefs(watch), "5 4 16 0");
@@ -328,9 +328,9 @@ final class AskTest {
         Check.is("suspect 1", watch.suspect(1), 0);
         Check.is("suspect 2", watch.suspect(2), 1);
         for (int k : new int[] {3, 4, -1, Integer.MIN_VALUE, Integer.MAX_VALUE}) {
-            Check.refused("suspect(" + k + ")", watch, none, () -> watch.suspect(k));
+            Check.refused("suspect(" + k + ")", watch, none, x -> x.suspect(k));
         }
-        ShellWatch equal = Check.loaded("shells 2;sly 1;blink 0 0;ball 1;");
+        Watch equal = Check.loaded("shells 2;sly 1;blink 0 0;ball 1;");
         equal.rest();
         Check.is("equal beliefs", Check.beliefs(equal), "1 4 1");
         Check.is("the greatest", equal.suspect(0), 1);
@@ -339,7 +339,7 @@ final class AskTest {
     }
 
     private static void checksum() {
-        ShellWatch watch = Check.loaded("shells 4;ball 3;scratch 1;sly 9;blink 0 5;purse 9999;");
+        Watch watch = Check.loaded("shells 4;ball 3;scratch 1;sly 9;blink 0 5;purse 9999;");
         watch.swap(3, 1);
         watch.steal(1);
         watch.bet(0, 500);
@@ -363,7 +363,7 @@ final class AskTest {
     }
 
     private static void asksChangeNothing() {
-        ShellWatch watch = Check.loaded("shells 6;ball 2;scratch 1 4;blink 1 3;sly 3;odds chance/9;");
+        Watch watch = Check.loaded("shells 6;ball 2;scratch 1 4;blink 1 3;sly 3;odds chance/9;");
         watch.swap(0, 2);
         watch.rest();
         String before = Check.view(watch);

@@ -27,13 +27,13 @@ final class ChangeTest {
     }
 
     private static void swap() {
-        ShellWatch watch = new ShellWatch();
+        Watch watch = new Watch();
         for (int no : NO_PLACES) {
-            Check.refused("swap(" + no + ", 0)", watch, NO_PLACE, () -> watch.swap(no, 0));
-            Check.refused("swap(0, " + no + ")", watch, NO_PLACE, () -> watch.swap(0, no));
-            Check.refused("swap(no, no) " + no, watch, NO_PLACE, () -> watch.swap(no, no));
+            Check.refused("swap(" + no + ", 0)", watch, NO_PLACE, x -> x.swap(no, 0));
+            Check.refused("swap(0, " + no + ")", watch, NO_PLACE, x -> x.swap(0, no));
+            Check.refused("swap(no, no) " + no, watch, NO_PLACE, x -> x.swap(no, no));
         }
-        Check.refused("swap(2, 2)", watch, ILLEGAL, () -> watch.swap(2, 2));
+        Check.refused("swap(2, 2)", watch, ILLEGAL, x -> x.swap(2, 2));
         Check.is("what was refused is no change", watch.undo(), -1);
         Check.is("swap", watch.swap(2, 0), false);
         Check.is("row behind a swap", Check.row(watch), "210");
@@ -44,7 +44,7 @@ final class ChangeTest {
         Check.is("row behind two swaps", Check.row(watch), "120");
         Check.is("beliefs behind two swaps", Check.beliefs(watch), "1 4 20 0");
         Check.is("ball that was not moved", watch.state(2), 2);
-        ShellWatch trust = Check.loaded("shells 2;trust 99;");
+        Watch trust = Check.loaded("shells 2;trust 99;");
         trust.swap(0, 1);
         Check.is("much trust", Check.beliefs(trust), "1 99 0");
         trust = Check.loaded("shells 2;trust 1;");
@@ -53,13 +53,13 @@ final class ChangeTest {
     }
 
     private static void feint() {
-        ShellWatch watch = new ShellWatch();
+        Watch watch = new Watch();
         for (int no : NO_PLACES) {
-            Check.refused("feint(" + no + ", 0)", watch, NO_PLACE, () -> watch.feint(no, 0));
-            Check.refused("feint(0, " + no + ")", watch, NO_PLACE, () -> watch.feint(0, no));
-            Check.refused("feint(no, no) " + no, watch, NO_PLACE, () -> watch.feint(no, no));
+            Check.refused("feint(" + no + ", 0)", watch, NO_PLACE, x -> x.feint(no, 0));
+            Check.refused("feint(0, " + no + ")", watch, NO_PLACE, x -> x.feint(0, no));
+            Check.refused("feint(no, no) " + no, watch, NO_PLACE, x -> x.feint(no, no));
         }
-        Check.refused("feint(0, 0)", watch, ILLEGAL, () -> watch.feint(0, 0));
+        Check.refused("feint(0, 0)", watch, ILLEGAL, x -> x.feint(0, 0));
         Check.is("what was refused is no change", watch.undo(), -1);
         Check.is("feint", watch.feint(2, 0), false);
         Check.is("row behind a feint", Check.row(watch), "012");
@@ -70,7 +70,7 @@ final class ChangeTest {
     }
 
     private static void movesOfScratchedShells() {
-        ShellWatch watch = Check.loaded("shells 4;scratch 1 3;");
+        Watch watch = Check.loaded("shells 4;scratch 1 3;");
         watch.swap(0, 2);
         Check.is("both are smooth", Check.beliefs(watch), "1 0 4 0 0");
         watch.swap(2, 3);
@@ -88,7 +88,7 @@ final class ChangeTest {
     }
 
     private static void rest() {
-        ShellWatch watch = new ShellWatch();
+        Watch watch = new Watch();
         watch.swap(0, 1);
         Check.is("rest", watch.rest(), false);
         Check.is("beliefs behind a rest", Check.beliefs(watch), "1 4 0 0");
@@ -104,7 +104,7 @@ final class ChangeTest {
     }
 
     private static void moveBlinks() {
-        ShellWatch watch = Check.loaded("shells 3;calm 3;blink 0 1;");
+        Watch watch = Check.loaded("shells 3;calm 3;blink 0 1;");
         Check.is("swap at a blink", watch.swap(0, 1), true);
         Check.is("beliefs behind a swap at a blink", Check.beliefs(watch), "4 1 1 0");
         Check.is("ball behind it", watch.state(2), 1);
@@ -112,7 +112,7 @@ final class ChangeTest {
         Check.is("beliefs behind a feint at a blink", Check.beliefs(watch), "2 1 1 0");
         Check.is("swap behind the blink", watch.swap(0, 1), false);
         // With sly: 2 shells, weights 1 for the swap, 2 for nothing, 3 for each steal and plant
-        ShellWatch sly = Check.loaded("shells 2;calm 2;sly 3;blink 0 1;");
+        Watch sly = Check.loaded("shells 2;calm 2;sly 3;blink 0 1;");
         sly.rest();
         Check.is("sly", Check.beliefs(sly), "11 1 3");
         sly.swap(0, 1);
@@ -121,7 +121,7 @@ final class ChangeTest {
     }
 
     private static void blinksOfScratchedShells() {
-        ShellWatch watch = Check.loaded("shells 4;scratch 0 1;calm 2;blink 0 9;");
+        Watch watch = Check.loaded("shells 4;scratch 0 1;calm 2;blink 0 9;");
         watch.rest();
         // of the swaps count 0 with 1 and 2 with 3: 0 stays by 2 with 3 and by calm
         Check.is("like shells", Check.beliefs(watch), "3 1 0 0 0");
@@ -133,7 +133,7 @@ final class ChangeTest {
         Check.is("a feint of unlike shells", Check.beliefs(watch), "0 7 9 0 0");
         watch.swap(3, 0);
         Check.is("a swap of smooth shells", Check.beliefs(watch), "0 15 17 0 0");
-        ShellWatch sly = Check.loaded("shells 3;scratch 2;sly 1;blink 0 9;");
+        Watch sly = Check.loaded("shells 3;scratch 2;sly 1;blink 0 9;");
         sly.steal(0);
         // 0: by calm, 2 steals and 3 plants (its swap with 2 would be seen, with 1 leads away)
         Check.is("a steal with a scratch", Check.beliefs(sly), "6 1 0 1");
@@ -142,7 +142,7 @@ final class ChangeTest {
     }
 
     private static void beliefsStayWithinBounds() {
-        ShellWatch watch = Check.loaded("shells 2;trust 99;");
+        Watch watch = Check.loaded("shells 2;trust 99;");
         watch.swap(0, 1);
         watch.swap(0, 1);
         Check.is("two swaps", Check.beliefs(watch), "4901 99 0");
@@ -154,15 +154,15 @@ final class ChangeTest {
         Check.is("halved", Check.beliefs(watch), "750926 30325 0");
         watch.rest();
         Check.is("behind a rest", Check.beliefs(watch), "750926 30325 0");
-        ShellWatch bound = Check.loaded("shells 3;trust 48;calm 3;blink 3 3;");
+        Watch bound = Check.loaded("shells 3;trust 48;calm 3;blink 3 3;");
         Check.run(bound, "feint 2 1;swap 2 0;swap 1 2;rest;feint 1 2;feint 1 2;");
         Check.is("1000000 is not halved", Check.beliefs(bound), "1000000 671857 671893 0");
-        ShellWatch more = Check.loaded("shells 2;trust 49;calm 3;blink 1 1;blink 3 4;");
+        Watch more = Check.loaded("shells 2;trust 49;calm 3;blink 1 1;blink 3 4;");
         // 1000001 and 999999 ahead of the halving
         Check.run(more, "swap 0 1;rest;feint 0 1;rest;rest;swap 0 1;");
         Check.is("1000001 is halved", Check.beliefs(more), "500001 500000 0");
-        ShellWatch even = Check.loaded("shells 2;trust 99;");
-        for (int i = 0; i < 200; i++) {
+        Watch even = Check.loaded("shells 2;trust 99;");
+        for (int i = 0; i < 80; i++) {
             even.swap(0, 1);
             Check.is("not more than 1000000", even.belief(0) <= 1000000 && even.belief(1) <= 1000000, true);
             Check.is("the ball is believed in", even.belief(even.state(2)) > 0, true);
@@ -170,13 +170,13 @@ final class ChangeTest {
     }
 
     private static void steal() {
-        ShellWatch watch = Check.loaded("shells 3;sly 2;blink 1 3;");
+        Watch watch = Check.loaded("shells 3;sly 2;blink 1 3;");
         for (int no : NO_PLACES) {
-            Check.refused("steal(" + no + ")", watch, NO_PLACE, () -> watch.steal(no));
+            Check.refused("steal(" + no + ")", watch, NO_PLACE, x -> x.steal(no));
         }
-        Check.refused("steal without a blink", watch, NOT_NOW, () -> watch.steal(0));
+        Check.refused("steal without a blink", watch, NOT_NOW, x -> x.steal(0));
         watch.rest();
-        Check.refused("steal of no ball", watch, NOT_NOW, () -> watch.steal(1));
+        Check.refused("steal of no ball", watch, NOT_NOW, x -> x.steal(1));
         // 0: by 1 swap, calm, 2 steals and 3 plants; 1 and 2: by a swap; hand: by the steal
         Check.is("steal", watch.steal(0), 12 + 1 + 1 + 2);
         Check.is("beliefs behind a steal", Check.beliefs(watch), "12 1 1 2");
@@ -184,23 +184,23 @@ final class ChangeTest {
         Check.is("the ball is under no shell", watch.shell(0, 3), 0);
         Check.is("a steal is a step", watch.state(1), 2);
         Check.is("at which the watcher blinked", watch.state(3), 1);
-        Check.refused("steal with the ball in the hand", watch, NOT_NOW, () -> watch.steal(0));
-        Check.refused("steal from the hand", watch, NO_PLACE, () -> watch.steal(3));
+        Check.refused("steal with the ball in the hand", watch, NOT_NOW, x -> x.steal(0));
+        Check.refused("steal from the hand", watch, NO_PLACE, x -> x.steal(3));
         Check.is("what was refused is no change", watch.undo(), 2);
-        ShellWatch honest = Check.loaded("shells 3;blink 0 9;");
-        Check.refused("steal without sly", honest, NOT_NOW, () -> honest.steal(0));
-        Check.refused("steal at no place without sly", honest, NO_PLACE, () -> honest.steal(3));
+        Watch honest = Check.loaded("shells 3;blink 0 9;");
+        Check.refused("steal without sly", honest, NOT_NOW, x -> x.steal(0));
+        Check.refused("steal at no place without sly", honest, NO_PLACE, x -> x.steal(3));
     }
 
     private static void plant() {
-        ShellWatch watch = Check.loaded("shells 3;sly 2;blink 0 1;blink 3 4;");
+        Watch watch = Check.loaded("shells 3;sly 2;blink 0 1;blink 3 4;");
         for (int no : NO_PLACES) {
-            Check.refused("plant(" + no + ")", watch, NO_PLACE, () -> watch.plant(no));
+            Check.refused("plant(" + no + ")", watch, NO_PLACE, x -> x.plant(no));
         }
-        Check.refused("plant of no ball in the hand", watch, NOT_NOW, () -> watch.plant(0));
+        Check.refused("plant of no ball in the hand", watch, NOT_NOW, x -> x.plant(0));
         watch.swap(0, 2);
         watch.steal(2);
-        Check.refused("plant without a blink", watch, NOT_NOW, () -> watch.plant(2));
+        Check.refused("plant without a blink", watch, NOT_NOW, x -> x.plant(2));
         watch.peek(0);
         watch.peek(1);
         watch.peek(2);
@@ -212,15 +212,15 @@ final class ChangeTest {
         Check.is("the ball is under a shell", watch.state(2), 1);
         Check.is("it is under this shell", watch.shell(1, 3), 1);
         Check.is("a plant is a step", watch.state(1), 4);
-        Check.refused("plant twice", watch, NOT_NOW, () -> watch.plant(1));
+        Check.refused("plant twice", watch, NOT_NOW, x -> x.plant(1));
         watch.swap(0, 1);
         Check.is("a planted ball moves with its shell", watch.state(2), 0);
     }
 
     private static void peek() {
-        ShellWatch watch = new ShellWatch();
+        Watch watch = new Watch();
         for (int no : NO_PLACES) {
-            Check.refused("peek(" + no + ")", watch, NO_PLACE, () -> watch.peek(no));
+            Check.refused("peek(" + no + ")", watch, NO_PLACE, x -> x.peek(no));
         }
         watch.swap(0, 1);
         watch.feint(1, 2);
@@ -232,7 +232,7 @@ final class ChangeTest {
         Check.is("beliefs behind the ball", Check.beliefs(watch), "0 1 0 0");
         Check.is("peek at nothing believed", watch.peek(0), false);
         Check.is("beliefs stay", Check.beliefs(watch), "0 1 0 0");
-        ShellWatch hand = Check.loaded("shells 2;sly 4;blink 0 9;");
+        Watch hand = Check.loaded("shells 2;sly 4;blink 0 9;");
         hand.steal(0);
         Check.is("beliefs with the hand", Check.beliefs(hand), "13 1 4");
         Check.is("peek with the ball in the hand", hand.peek(0), false);
@@ -240,17 +240,17 @@ final class ChangeTest {
     }
 
     private static void bet() {
-        ShellWatch watch = Check.loaded("shells 3;purse 50;odds steps+chance/20;");
+        Watch watch = Check.loaded("shells 3;purse 50;odds steps+chance/20;");
         for (int no : NO_PLACES) {
-            Check.refused("bet(" + no + ", 1)", watch, NO_PLACE, () -> watch.bet(no, 1));
-            Check.refused("bet(" + no + ", 0)", watch, NO_PLACE, () -> watch.bet(no, 0));
-            Check.refused("bet(" + no + ", 999)", watch, NO_PLACE, () -> watch.bet(no, 999));
+            Check.refused("bet(" + no + ", 1)", watch, NO_PLACE, x -> x.bet(no, 1));
+            Check.refused("bet(" + no + ", 0)", watch, NO_PLACE, x -> x.bet(no, 0));
+            Check.refused("bet(" + no + ", 999)", watch, NO_PLACE, x -> x.bet(no, 999));
         }
         for (int stake : new int[] {0, -1, 1000, Integer.MIN_VALUE, Integer.MAX_VALUE}) {
-            Check.refused("bet(0, " + stake + ")", watch, ILLEGAL, () -> watch.bet(0, stake));
+            Check.refused("bet(0, " + stake + ")", watch, ILLEGAL, x -> x.bet(0, stake));
         }
-        Check.refused("bet of more than the purse", watch, NOT_NOW, () -> watch.bet(0, 51));
-        Check.refused("bet of much more than the purse", watch, NOT_NOW, () -> watch.bet(0, 999));
+        Check.refused("bet of more than the purse", watch, NOT_NOW, x -> x.bet(0, 51));
+        Check.refused("bet of much more than the purse", watch, NOT_NOW, x -> x.bet(0, 999));
         watch.swap(0, 1);
         Check.is("bet lost", watch.bet(0, 20), 30);
         Check.is("beliefs behind a bet lost", Check.beliefs(watch), "0 1 0 0");
@@ -263,16 +263,16 @@ final class ChangeTest {
         Check.is("bets lost stay", watch.state(9), 0);
         Check.is("a bet is no step", watch.state(1), 1);
         Check.is("the whole purse", watch.bet(0, 100), 0);
-        Check.refused("bet of an empty purse", watch, NOT_NOW, () -> watch.bet(1, 1));
-        ShellWatch none = Check.loaded("shells 5;");
+        Check.refused("bet of an empty purse", watch, NOT_NOW, x -> x.bet(1, 1));
+        Watch none = Check.loaded("shells 5;");
         Check.is("odds without a statement", none.bet(0, 100), 500);
-        ShellWatch zero = Check.loaded("shells 5;odds 0;");
+        Watch zero = Check.loaded("shells 5;odds 0;");
         Check.is("a bet won with odds of 0", zero.bet(0, 100), 100);
         Check.is("is won", zero.state(8), 1);
     }
 
     private static void betBounds() {
-        ShellWatch watch = Check.loaded("shells 2;purse 9999;odds 9;");
+        Watch watch = Check.loaded("shells 2;purse 9999;odds 9;");
         for (int i = 1; i <= 110; i++) {
             Check.is("bet " + i, watch.bet(0, 999), 9999 + 8991 * i);
         }
@@ -284,9 +284,9 @@ final class ChangeTest {
     }
 
     private static void scratch() {
-        ShellWatch watch = new ShellWatch();
+        Watch watch = new Watch();
         for (int no : NO_PLACES) {
-            Check.refused("scratch(" + no + ")", watch, NO_PLACE, () -> watch.scratch(no, true));
+            Check.refused("scratch(" + no + ")", watch, NO_PLACE, x -> x.scratch(no, true));
         }
         watch.swap(0, 1);
         Check.is("scratch", watch.scratch(1, true), false);
@@ -305,11 +305,11 @@ final class ChangeTest {
     }
 
     private static void blink() {
-        ShellWatch watch = new ShellWatch();
+        Watch watch = new Watch();
         int[][] wrong = {{-1, 3}, {10000, 10000}, {5, 4}, {0, -1}, {3, 10000}, {Integer.MIN_VALUE, 0},
             {0, Integer.MAX_VALUE}};
         for (int[] w : wrong) {
-            Check.refused("blink(" + w[0] + ", " + w[1] + ")", watch, ILLEGAL, () -> watch.blink(w[0], w[1]));
+            Check.refused("blink(" + w[0] + ", " + w[1] + ")", watch, ILLEGAL, x -> x.blink(w[0], w[1]));
         }
         Check.is("blink", watch.blink(0, 0), 1);
         Check.is("blinks 0", watch.blinks(0), true);
@@ -321,17 +321,17 @@ final class ChangeTest {
         for (int i = 5; i <= 8; i++) {
             Check.is("blink " + i, watch.blink(i, i), i);
         }
-        Check.refused("a 9th blink", watch, NOT_NOW, () -> watch.blink(1, 1));
+        Check.refused("a 9th blink", watch, NOT_NOW, x -> x.blink(1, 1));
         for (int[] w : wrong) {
-            Check.refused("9th blink(" + w[0] + ", " + w[1] + ")", watch, ILLEGAL, () -> watch.blink(w[0], w[1]));
+            Check.refused("9th blink(" + w[0] + ", " + w[1] + ")", watch, ILLEGAL, x -> x.blink(w[0], w[1]));
         }
-        ShellWatch full = Check.loaded("shells 2;blink 1 1;blink 2 2;blink 3 3;blink 4 4;blink 5 5;blink 6 6;blink 7 7;");
+        Watch full = Check.loaded("shells 2;blink 1 1;blink 2 2;blink 3 3;blink 4 4;blink 5 5;blink 6 6;blink 7 7;");
         Check.is("an 8th blink", full.blink(8, 8), 8);
-        Check.refused("a 9th blink behind a text", full, NOT_NOW, () -> full.blink(1, 1));
+        Check.refused("a 9th blink behind a text", full, NOT_NOW, x -> x.blink(1, 1));
     }
 
     private static void undo() {
-        ShellWatch watch = new ShellWatch();
+        Watch watch = new Watch();
         Check.is("nothing to undo", watch.undo(), -1);
         long[] sums = new long[21];
         sums[0] = watch.checksum();
@@ -355,27 +355,27 @@ final class ChangeTest {
     }
 
     private static void undoOfEach() {
-        ShellWatch watch = Check.loaded("shells 4;ball 1;scratch 2;sly 1;blink 0 9;odds 4;purse 70;");
-        String[] views = new String[9];
-        views[0] = Check.view(watch);
+        Watch watch = Check.loaded("shells 4;ball 1;scratch 2;sly 1;blink 0 9;odds 4;purse 70;");
+        String[] games = new String[9];
+        games[0] = Check.game(watch);
         watch.steal(1);
-        views[1] = Check.view(watch);
+        games[1] = Check.game(watch);
         watch.plant(3);
-        views[2] = Check.view(watch);
+        games[2] = Check.game(watch);
         watch.bet(3, 9);
-        views[3] = Check.view(watch);
+        games[3] = Check.game(watch);
         watch.scratch(2, false);
-        views[4] = Check.view(watch);
+        games[4] = Check.game(watch);
         watch.blink(100, 200);
-        views[5] = Check.view(watch);
+        games[5] = Check.game(watch);
         watch.peek(3);
-        views[6] = Check.view(watch);
+        games[6] = Check.game(watch);
         Check.run(watch, "swap 0 3;rest;");
-        views[7] = Check.view(watch);
+        games[7] = Check.game(watch);
         Check.load(watch, "shells 8;ball 7;odds 1+1;blink 4 4;");
         for (int i = 7; i >= 0; i--) {
             Check.is("undo " + i, watch.undo(), i);
-            Check.is("view " + i, Check.view(watch), views[i]);
+            Check.is("game " + i, Check.game(watch), games[i]);
         }
         Check.is("nothing more", watch.undo(), -1);
         watch.peek(0);
@@ -390,7 +390,7 @@ final class ChangeTest {
 
     /** A change undone does not make others final, and what is final stays so. */
     private static void undoIsFinal() {
-        ShellWatch watch = new ShellWatch();
+        Watch watch = new Watch();
         for (int i = 0; i < 8; i++) {
             watch.rest();
         }

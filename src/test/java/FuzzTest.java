@@ -2,18 +2,19 @@ import java.nio.charset.StandardCharsets;
 import java.util.ArrayList;
 import java.util.List;
 import java.util.Random;
-import java.util.function.Supplier;
+import java.util.function.Function;
 
 /** Runs of calls, always the same ones, whose answers are compared with those of the plain model. */
 final class FuzzTest {
-    private static final int CALLS = 512;
+    // A text of 500 bytes: 25 times append, load or run, errorOffset, and checksum behind each.
+    private static final int MOST_CALLS_AT_ONCE = 54;
     private static final String[] SOUP = {"shells", "ball", "scratch", "trust", "calm", "sly", "purse", "blink", "odds",
         "steps", "blinks", "chance", "swap", "feint", "rest", "steal", "plant", "peek", "repeat", ";", ";", ";", "(",
         ")", "+", "-", "*", "/", " ", "0", "1", "2", "3", "7", "9", "10", "20", "21", "99", "100", "9999", "10000",
         "00", "x", "\n", "\u00ff", "@"};
 
     private final Random random;
-    private final ShellWatch watch = new ShellWatch();
+    private final Watch watch = new Watch();
     private final PlainModel model = new PlainModel();
     private final List<String> told = new ArrayList<>();
 
@@ -33,42 +34,36 @@ final class FuzzTest {
     }
 
     private boolean isRunAlike() {
-        int left = CALLS;
         boolean isLongGame = random.nextInt(3) == 0;
-        while (left > 0) {
+        while (watch.calls() + MOST_CALLS_AT_ONCE <= Watch.MOST_CALLS) {
             int kind = random.nextInt(isLongGame ? 400 : 60);
-            int used = kind == 0 ? text(setup(), true) : kind <= 2 ? text(script(), false)
+            boolean isAlike = kind == 0 ? text(setup(), true) : kind <= 2 ? text(script(), false)
                     : kind == 3 ? text(random.nextBoolean() ? soup() : mutated(setup()), true)
                     : kind == 4 ? text(random.nextBoolean() ? soup() : mutated(script()), false)
                     : kind <= 24 || isLongGame ? change() : kind <= 50 ? ask() : other();
-            if (used < 0) {
+            if (!isAlike) {
                 return false;
             }
-            left -= used;
         }
         return true;
     }
 
-    private static Object answer(Supplier<?> call) {
+    private boolean alike(String call, Function<Watch, ?> mine, Function<PlainModel, ?> theirs) {
+        Object got = Check.answer(watch, mine);
+        Object due;
         try {
-            return call.get();
+            due = theirs.apply(model);
         } catch (RuntimeException e) {
-            return e.getClass().getName();
+            due = e.getClass();
         }
-    }
-
-    /** Gives the calls used; -1 for an answer that is not alike. */
-    private int alike(String call, Supplier<?> mine, Supplier<?> theirs) {
-        Object got = answer(mine);
-        Object due = answer(theirs);
         told.add(call + " -> " + got);
         long sum = watch.checksum();
         if (got.equals(due) && sum == model.checksum()) {
-            return 2;
+            return true;
         }
         told.forEach(System.out::println);
         System.out.println("due is " + due + ", checksum " + sum + " due " + model.checksum());
-        return -1;
+        return false;
     }
 
     private int near(int most) {
@@ -76,114 +71,109 @@ final class FuzzTest {
     }
 
     private int place() {
-        return near(watch.state(0) - 1);
+        return near(model.state(0) - 1);
     }
 
-    private int text(String text, boolean isSetup) {
+    private boolean text(String text, boolean isSetup) {
         byte[] bytes = text.getBytes(StandardCharsets.ISO_8859_1);
-        int used = 0;
         for (int at = 0; at < bytes.length; at += 20) {
             int[] w = new int[5];
             for (int i = 0; i < 20; i++) {
                 w[i / 4] = w[i / 4] << 8 | (at + i < bytes.length ? bytes[at + i] & 255 : random.nextInt(256));
             }
-            used += 2;
-            if (alike("append", () -> watch.append(w[0], w[1], w[2], w[3], w[4]), () -> model.append(w)) < 0) {
-                return -1;
+            if (!alike("append", x -> x.append(w[0], w[1], w[2], w[3], w[4]), y -> y.append(w))) {
+                return false;
             }
         }
         int length = random.nextInt(40) == 0 ? near(bytes.length) : bytes.length;
-        int code = isSetup ? alike("load '" + text + "'", () -> watch.load(length), () -> model.load(length))
-                : alike("run '" + text + "'", () -> watch.run(length), () -> model.run(length));
-        if (code < 0) {
-            return -1;
-        }
-        return alike("errorOffset", watch::errorOffset, model::errorOffset) < 0 ? -1 : used + 4;
+        boolean isAlike = isSetup ? alike("load '" + text + "'", x -> x.load(length), y -> y.load(length))
+                : alike("run '" + text + "'", x -> x.run(length), y -> y.run(length));
+        return isAlike && alike("errorOffset", Watch::errorOffset, PlainModel::errorOffset);
     }
 
-    private int change() {
+    private boolean change() {
         int a = place();
         int b = place();
         int k = random.nextInt(20);
         if (k < 7) {
-            return alike("swap " + a + " " + b, () -> watch.swap(a, b), () -> model.move("swap", a, b));
+            return alike("swap " + a + " " + b, x -> x.swap(a, b), y -> y.move("swap", a, b));
         }
         if (k < 10) {
-            return alike("feint " + a + " " + b, () -> watch.feint(a, b), () -> model.move("feint", a, b));
+            return alike("feint " + a + " " + b, x -> x.feint(a, b), y -> y.move("feint", a, b));
         }
         if (k == 10) {
-            return alike("rest", watch::rest, model::rest);
+            return alike("rest", Watch::rest, PlainModel::rest);
         }
-        int ball = watch.state(2);
+        int ball = model.state(2);
         int near = random.nextInt(4) == 0 ? a : ball;
         if (k == 11) {
-            return alike("steal " + near, () -> watch.steal(near), () -> model.hand("steal", near));
+            return alike("steal " + near, x -> x.steal(near), y -> y.hand("steal", near));
         }
         if (k == 12) {
-            return alike("plant " + a, () -> watch.plant(a), () -> model.hand("plant", a));
+            return alike("plant " + a, x -> x.plant(a), y -> y.hand("plant", a));
         }
         if (k == 13) {
-            return alike("peek " + a, () -> watch.peek(a), () -> model.peek(a));
+            return alike("peek " + a, x -> x.peek(a), y -> y.peek(a));
         }
         if (k == 14) {
             int stake = random.nextBoolean() ? near(999) : near(60);
             int at = random.nextInt(3) == 0 ? a : ball;
-            return alike("bet " + at + " " + stake, () -> watch.bet(at, stake), () -> model.bet(at, stake));
+            return alike("bet " + at + " " + stake, x -> x.bet(at, stake), y -> y.bet(at, stake));
         }
         if (k == 15) {
             boolean isOn = random.nextBoolean();
-            return alike("scratch " + a + " " + isOn, () -> watch.scratch(a, isOn), () -> model.scratch(a, isOn));
+            return alike("scratch " + a + " " + isOn, x -> x.scratch(a, isOn), y -> y.scratch(a, isOn));
         }
         if (k == 16) {
-            int first = random.nextInt(10) == 0 ? near(9999) : watch.state(1) + random.nextInt(5);
+            int first = random.nextInt(10) == 0 ? near(9999) : model.state(1) + random.nextInt(5);
             int last = random.nextInt(10) == 0 ? near(9999) : first + random.nextInt(20);
-            return alike("blink " + first + " " + last, () -> watch.blink(first, last), () -> model.blink(first, last));
+            return alike("blink " + first + " " + last, x -> x.blink(first, last), y -> y.blink(first, last));
         }
-        return k == 17 ? alike("undo", watch::undo, model::undo) : ask();
+        return k == 17 ? alike("undo", Watch::undo, PlainModel::undo) : ask();
     }
 
-    private int ask() {
+    private boolean ask() {
         int k = random.nextInt(14);
-        int n = watch.state(0);
+        int n = model.state(0);
         int at = near(n);
         int p = place();
         int what = near(12);
         int few = near(4);
-        int step = random.nextInt(10) == 0 ? near(20000) : watch.state(1) + random.nextInt(10);
+        int step = random.nextInt(10) == 0 ? near(20000) : model.state(1) + random.nextInt(10);
         int swaps = near(6);
         int steps = near(20);
         return switch (k) {
-            case 0 -> alike("state " + what, () -> watch.state(what), () -> model.state(what));
-            case 1 -> alike("shell " + p + " " + few, () -> watch.shell(p, few), () -> model.shell(p, few));
-            case 2 -> alike("belief " + at, () -> watch.belief(at), () -> model.belief(at));
-            case 3 -> alike("chance " + at, () -> watch.chance(at), () -> model.chance(at));
-            case 4 -> alike("doubt", watch::doubt, model::doubt);
-            case 5 -> alike("guess", watch::guess, model::guess);
-            case 6 -> alike("blinks " + step, () -> watch.blinks(step), () -> model.blinks(step));
-            case 7 -> alike("odds " + p, () -> watch.odds(p), () -> model.odds(p));
-            case 8 -> alike("fewest", watch::fewest, model::fewest);
-            case 9 -> alike("rows " + swaps, () -> watch.rows(swaps), () -> model.rows(swaps));
-            case 10, 11 -> alike("fool " + few, () -> watch.fool(few), () -> model.fool(few));
-            case 12 -> alike("caught " + steps, () -> watch.caught(steps), () -> model.caught(steps));
-            default -> alike("suspect " + at, () -> watch.suspect(at), () -> model.suspect(at));
+            case 0 -> alike("state " + what, x -> x.state(what), y -> y.state(what));
+            case 1 -> alike("shell " + p + " " + few, x -> x.shell(p, few), y -> y.shell(p, few));
+            case 2 -> alike("belief " + at, x -> x.belief(at), y -> y.belief(at));
+            case 3 -> alike("chance " + at, x -> x.chance(at), y -> y.chance(at));
+            case 4 -> alike("doubt", Watch::doubt, PlainModel::doubt);
+            case 5 -> alike("guess", Watch::guess, PlainModel::guess);
+            case 6 -> alike("blinks " + step, x -> x.blinks(step), y -> y.blinks(step));
+            case 7 -> alike("odds " + p, x -> x.odds(p), y -> y.odds(p));
+            case 8 -> alike("fewest", Watch::fewest, PlainModel::fewest);
+            case 9 -> alike("rows " + swaps, x -> x.rows(swaps), y -> y.rows(swaps));
+            case 10, 11 -> alike("fool " + few, x -> x.fool(few), y -> y.fool(few));
+            case 12 -> alike("caught " + steps, x -> x.caught(steps), y -> y.caught(steps));
+            default -> alike("suspect " + at, x -> x.suspect(at), y -> y.suspect(at));
         };
     }
 
-    private int other() {
+    private boolean other() {
         int k = random.nextInt(8);
         if (k < 5) {
-            return alike("undo", watch::undo, model::undo);
+            return alike("undo", Watch::undo, PlainModel::undo);
         }
         if (k == 5) {
-            return alike("errorOffset", watch::errorOffset, model::errorOffset);
+            return alike("errorOffset", Watch::errorOffset, PlainModel::errorOffset);
         }
         if (k == 6) {
             int[] w = random.ints(5).toArray();
-            return alike("append", () -> watch.append(w[0], w[1], w[2], w[3], w[4]), () -> model.append(w));
+            return alike("append", x -> x.append(w[0], w[1], w[2], w[3], w[4]), y -> y.append(w));
         }
         int length = near(3);
-        return random.nextBoolean() ? alike("load " + length, () -> watch.load(length), () -> model.load(length))
-                : alike("run " + length, () -> watch.run(length), () -> model.run(length));
+        return random.nextBoolean() ? alike("load " + length, x -> x.load(length), y -> y.load(length))
+                : alike("run " + length, x -> x.run(length), y -> y.run(length));
     }
 
     // ---- texts
@@ -247,7 +237,7 @@ final class FuzzTest {
 
     private String commands(int depth) {
         StringBuilder text = new StringBuilder();
-        int shells = watch.state(0);
+        int shells = model.state(0);
         int count = random.nextInt(random.nextInt(12) == 0 ? 40 : 7);
         for (int i = 0; i < count; i++) {
             int k = random.nextInt(9);
@@ -259,7 +249,7 @@ final class FuzzTest {
             } else if (k == 5) {
                 text.append(one("peek", "peek ")).append(number(0, shells - 1));
             } else if (k == 6) {
-                text.append("steal ").append(watch.state(2));
+                text.append("steal ").append(model.state(2));
             } else if (k == 7) {
                 text.append("plant ").append(number(0, shells - 1));
             } else if (depth < 4) {

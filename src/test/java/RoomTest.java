@@ -1,11 +1,9 @@
 import java.lang.management.ManagementFactory;
 
-/** A run's calls live in one room: an object is made once, and its calls make next to nothing. */
+/** LANGUAGE.md's room: what an object and its 512 calls make. */
 final class RoomTest {
-    private static final int CALLS = 512;
-    // One exception, or one row of seven numbers
-    private static final long MOST_BYTES_A_CALL = 80;
-    private static final long MOST_BYTES_AN_OBJECT = 80000;
+    // A run makes some 7.3 million fields and elements at most; none is smaller than a byte.
+    private static final long MOST_BYTES = 7300000;
 
     private interface Call {
         void make(ShellWatch watch);
@@ -16,27 +14,33 @@ final class RoomTest {
             System.out.println("no measure of room here");
             return;
         }
-        Check.is("room of an object", bytesOfAnObject() <= MOST_BYTES_AN_OBJECT, true);
-        room("fool", watch -> watch.fool(4));
-        room("caught", watch -> watch.caught(20));
-        room("rows", watch -> watch.rows(6));
-        room("swap", watch -> watch.swap(0, 1));
-        room("rest", ShellWatch::rest);
-        room("bet", watch -> watch.bet(0, 1));
-        room("odds", watch -> watch.odds(0));
-        room("undo", ShellWatch::undo);
-        room("checksum", ShellWatch::checksum);
-        room("suspect", watch -> watch.suspect(0));
-        room("append and load", watch -> {
-            watch.append(0x7368656c, 0x6c732038, 0x3b6f6464, 0x7320312b, 0x32202020);
-            watch.append(0x3b736c79, 0x20393b20, 0x20202020, 0x20202020, 0x20202020);
-            watch.load(40);
+        room("fool", 1, watch -> watch.fool(4));
+        room("caught", 1, watch -> watch.caught(20));
+        room("rows", 1, watch -> watch.rows(6));
+        room("swap", 1, watch -> watch.swap(0, 1));
+        room("rest", 1, ShellWatch::rest);
+        room("bet", 1, watch -> watch.bet(0, 1));
+        room("odds", 1, watch -> watch.odds(0));
+        room("undo", 1, ShellWatch::undo);
+        room("checksum", 1, ShellWatch::checksum);
+        room("suspect", 1, watch -> watch.suspect(0));
+        int[][] setup = Check.words("shells 8;odds 1+2*3;sly 9;scratch 0 1;");
+        room("append and load", 3, watch -> {
+            put(watch, setup);
+            watch.load(38);
         });
-        room("append and run", watch -> {
-            watch.append(0x72657065, 0x61742032, 0x30287265, 0x7374293b, 0x20202020);
-            watch.run(20);
+        int[][] script = Check.words("repeat 20(repeat 20(swap 0 1;););");
+        room("append and run", 3, watch -> {
+            put(watch, script);
+            watch.run(33);
         });
         Check.finish();
+    }
+
+    private static void put(ShellWatch watch, int[][] words) {
+        for (int[] w : words) {
+            watch.append(w[0], w[1], w[2], w[3], w[4]);
+        }
     }
 
     private static long allocated() {
@@ -44,26 +48,18 @@ final class RoomTest {
                 .getThreadAllocatedBytes(Thread.currentThread().getId());
     }
 
-    private static long bytesOfAnObject() {
-        new ShellWatch();
-        allocated();
+    private static void room(String what, int calls, Call call) {
+        int[][] setup = Check.words("shells 6;sly 9;blink 0 9999;odds shells+steps*2;purse 9999;");
+        int most = (Watch.MOST_CALLS - setup.length - 1) / calls;
         long before = allocated();
         ShellWatch watch = new ShellWatch();
-        long made = allocated() - before;
-        Check.is("the object measured", watch.state(0), 3);
-        System.out.println("an object: " + made + " bytes");
-        return made;
-    }
-
-    private static void room(String what, Call call) {
-        ShellWatch watch = Check.loaded("shells 6;sly 9;blink 0 9999;odds shells+steps*2;purse 9999;");
-        call.make(watch);
-        long before = allocated();
-        for (int i = 0; i < CALLS; i++) {
+        put(watch, setup);
+        Check.is("shells of the object measured", watch.load(59), 6);
+        for (int i = 0; i < most; i++) {
             call.make(watch);
         }
-        long made = (allocated() - before) / CALLS;
-        System.out.println(what + ": " + made + " bytes a call");
-        Check.is("room of " + what, made <= MOST_BYTES_A_CALL, true);
+        long made = allocated() - before;
+        System.out.println(what + ": " + made + " bytes");
+        Check.is("room of " + what, made < MOST_BYTES, true);
     }
 }

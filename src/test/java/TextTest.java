@@ -1,5 +1,3 @@
-import java.util.Collections;
-
 /** Promises 2 to 5: the input buffer, setup texts, scripts and their errors. */
 final class TextTest {
     private static final Class<?> ILLEGAL = IllegalArgumentException.class;
@@ -20,39 +18,8 @@ final class TextTest {
         Check.finish();
     }
 
-    private static String times(int count, String text) {
-        return String.join("", Collections.nCopies(count, text));
-    }
-
-    private static void setup(String text, int due, int offset) {
-        ShellWatch watch = new ShellWatch();
-        String before = Check.game(watch);
-        Check.is("load of '" + text + "'", Check.load(watch, text), due);
-        Check.is("errorOffset of '" + text + "'", watch.errorOffset(), offset);
-        Check.is("buffer behind '" + text + "'", watch.append(0, 0, 0, 0, 0), 20);
-        if (due < 0) {
-            Check.is("game behind '" + text + "'", Check.game(watch), before);
-            Check.is("no change by '" + text + "'", watch.undo(), -1);
-        }
-    }
-
-    private static void script(String text, int due, int offset) {
-        ShellWatch watch = new ShellWatch();
-        long before = watch.checksum();
-        Check.is("run of '" + text + "'", Check.run(watch, text), due);
-        Check.is("errorOffset of '" + text + "'", watch.errorOffset(), offset);
-        Check.is("buffer behind '" + text + "'", watch.append(0, 0, 0, 0, 0), 20);
-        if (due < 0) {
-            Check.is("game behind '" + text + "'", watch.checksum(), before);
-            Check.is("no change by '" + text + "'", watch.undo(), -1);
-        } else {
-            Check.is("one change by '" + text + "'", watch.undo(), 0);
-            Check.is("undone '" + text + "'", watch.checksum(), before);
-        }
-    }
-
     private static void appends() {
-        ShellWatch watch = new ShellWatch();
+        Watch watch = new Watch();
         for (int i = 1; i <= 25; i++) {
             Check.is("append " + i, watch.append(0x20202020, 0x20202020, 0x20202020, 0x20202020, 0x20202020), 20 * i);
         }
@@ -61,7 +28,7 @@ final class TextTest {
         Check.is("500 bytes of spaces end at", watch.errorOffset(), 500);
         Check.is("append behind", watch.append(0, 0, 0, 0, 0), 20);
         // The most significant byte is first: "shel" "ls 4" ";sly" " 7; " "    "
-        watch = new ShellWatch();
+        watch = new Watch();
         watch.append(0x7368656c, 0x6c732034, 0x3b736c79, 0x20373b20, 0x20202020);
         Check.is("order of bytes", watch.load(20), 4);
         Check.is("order of bytes, sly", watch.state(6), 7);
@@ -72,17 +39,17 @@ final class TextTest {
     }
 
     private static void loadsLengths() {
-        ShellWatch watch = new ShellWatch();
-        Check.refused("load(-1)", watch, ILLEGAL, () -> watch.load(-1));
-        Check.refused("load(1) of nothing", watch, ILLEGAL, () -> watch.load(1));
-        Check.refused("load(least int)", watch, ILLEGAL, () -> watch.load(Integer.MIN_VALUE));
+        Watch watch = new Watch();
+        Check.refused("load(-1)", watch, ILLEGAL, x -> x.load(-1));
+        Check.refused("load(1) of nothing", watch, ILLEGAL, x -> x.load(1));
+        Check.refused("load(least int)", watch, ILLEGAL, x -> x.load(Integer.MIN_VALUE));
         Check.put(watch, "shells 5;");
-        Check.refused("load(21)", watch, ILLEGAL, () -> watch.load(21));
+        Check.refused("load(21)", watch, ILLEGAL, x -> x.load(21));
         Check.is("buffer is unchanged", watch.load(9), 5);
-        Check.refused("buffer is empty", watch, ILLEGAL, () -> watch.load(1));
+        Check.refused("buffer is empty", watch, ILLEGAL, x -> x.load(1));
         Check.is("load(0)", watch.load(0), ShellWatch.SYNTAX_ERROR);
         Check.is("load(0) at", watch.errorOffset(), 0);
-        Check.refused("load(-1) behind an error", watch, ILLEGAL, () -> watch.load(-1));
+        Check.refused("load(-1) behind an error", watch, ILLEGAL, x -> x.load(-1));
         // Just the first bytes are read, and no token goes on behind them.
         Check.put(watch, "shells 2;ball 1;");
         Check.is("first bytes", watch.load(9), 2);
@@ -93,7 +60,7 @@ final class TextTest {
     }
 
     private static void loadsAll() {
-        ShellWatch watch = new ShellWatch();
+        Watch watch = new Watch();
         watch.swap(0, 1);
         watch.bet(0, 7);
         watch.blink(3, 4);
@@ -118,108 +85,108 @@ final class TextTest {
         }
         Check.is("scratches without statements", watch.shell(0, 1) + watch.shell(1, 1), 0);
         Check.is("odds without statements", watch.odds(0), 1);
-        setup("shells 8;trust 99;calm 1;sly 0;purse 0;ball 0;", 8, -1);
-        setup("shells2;" + times(8, "blink 9999 9999;"), 2, -1);
+        Check.setup("shells 8;trust 99;calm 1;sly 0;purse 0;ball 0;", 8, -1);
+        Check.setup("shells2;" + Check.times(8, "blink 9999 9999;"), 2, -1);
     }
 
     private static void loadsSpacesAndNumbers() {
-        setup("shells3;ball2;scratch0 1;trust99;odds(shells+1)*2;blink 0 1;", 3, -1);
-        setup("  shells   3  ;  ball   2  ;  ", 3, -1);
-        setup("shells 000000000000000000003;ball 0000000000;purse 00009999;", 3, -1);
-        setup("shells 99999999999999999999999;", ShellWatch.OUT_OF_RANGE, 7);
-        setup("shells 4294967299;", ShellWatch.OUT_OF_RANGE, 7);
-        setup("shells 3;purse 18446744073709551616;", ShellWatch.OUT_OF_RANGE, 15);
-        setup("shells 3;odds 2 * shells - 1;", 3, -1);
-        setup("sh ells 3;", ShellWatch.SYNTAX_ERROR, 0);
-        setup("shells 3\n;", ShellWatch.SYNTAX_ERROR, 8);
-        setup("shells 3;\t", ShellWatch.SYNTAX_ERROR, 9);
-        setup("shells 3;\0", ShellWatch.SYNTAX_ERROR, 9);
-        setup("shells 3;\u00e9", ShellWatch.SYNTAX_ERROR, 9);
-        setup("Shells 3;", ShellWatch.SYNTAX_ERROR, 0);
+        Check.setup("shells3;ball2;scratch0 1;trust99;odds(shells+1)*2;blink 0 1;", 3, -1);
+        Check.setup("  shells   3  ;  ball   2  ;  ", 3, -1);
+        Check.setup("shells 000000000000000000003;ball 0000000000;purse 00009999;", 3, -1);
+        Check.setup("shells 99999999999999999999999;", ShellWatch.OUT_OF_RANGE, 7);
+        Check.setup("shells 4294967299;", ShellWatch.OUT_OF_RANGE, 7);
+        Check.setup("shells 3;purse 18446744073709551616;", ShellWatch.OUT_OF_RANGE, 15);
+        Check.setup("shells 3;odds 2 * shells - 1;", 3, -1);
+        Check.setup("sh ells 3;", ShellWatch.SYNTAX_ERROR, 0);
+        Check.setup("shells 3\n;", ShellWatch.SYNTAX_ERROR, 8);
+        Check.setup("shells 3;\t", ShellWatch.SYNTAX_ERROR, 9);
+        Check.setup("shells 3;\0", ShellWatch.SYNTAX_ERROR, 9);
+        Check.setup("shells 3;\u00e9", ShellWatch.SYNTAX_ERROR, 9);
+        Check.setup("Shells 3;", ShellWatch.SYNTAX_ERROR, 0);
     }
 
     private static void loadErrors() {
-        setup("", ShellWatch.SYNTAX_ERROR, 0);
-        setup("   ", ShellWatch.SYNTAX_ERROR, 3);
-        setup("shells", ShellWatch.SYNTAX_ERROR, 6);
-        setup("shells 3", ShellWatch.SYNTAX_ERROR, 8);
-        setup("shells 3  ", ShellWatch.SYNTAX_ERROR, 10);
-        setup("shells 3;ball 1", ShellWatch.SYNTAX_ERROR, 15);
-        setup("shells ;", ShellWatch.SYNTAX_ERROR, 7);
-        setup("shells 3;;", ShellWatch.SYNTAX_ERROR, 9);
-        setup("shellsx 3;", ShellWatch.SYNTAX_ERROR, 0);
-        setup("shellsz 3;", ShellWatch.SYNTAX_ERROR, 0);
-        setup("shells{ 3;", ShellWatch.SYNTAX_ERROR, 6);
-        setup("shells` 3;", ShellWatch.SYNTAX_ERROR, 6);
-        setup("ball 1;shells 3;", ShellWatch.SYNTAX_ERROR, 0);
-        setup("shells 3;shells 3;", ShellWatch.SYNTAX_ERROR, 9);
-        setup("shells 3;steps 3;", ShellWatch.SYNTAX_ERROR, 9);
-        setup("shells 3;swap 0 1;", ShellWatch.SYNTAX_ERROR, 9);
-        setup("shells 3;3;", ShellWatch.SYNTAX_ERROR, 9);
-        setup("shells 3;ball -1;", ShellWatch.SYNTAX_ERROR, 14);
-        setup("shells 3;ball 1 2;", ShellWatch.SYNTAX_ERROR, 16);
-        setup("shells 3;ball ball;", ShellWatch.SYNTAX_ERROR, 14);
-        setup("shells 3;scratch;", ShellWatch.SYNTAX_ERROR, 16);
-        setup("shells 3;scratch 0;scratch;", ShellWatch.SYNTAX_ERROR, 26);
-        setup("shells 3;scratch 0;scratch ball;", ShellWatch.SYNTAX_ERROR, 27);
-        setup("shells 3;blink 1;", ShellWatch.SYNTAX_ERROR, 16);
-        setup("shells 3;blink 1 2 3;", ShellWatch.SYNTAX_ERROR, 19);
+        Check.setup("", ShellWatch.SYNTAX_ERROR, 0);
+        Check.setup("   ", ShellWatch.SYNTAX_ERROR, 3);
+        Check.setup("shells", ShellWatch.SYNTAX_ERROR, 6);
+        Check.setup("shells 3", ShellWatch.SYNTAX_ERROR, 8);
+        Check.setup("shells 3  ", ShellWatch.SYNTAX_ERROR, 10);
+        Check.setup("shells 3;ball 1", ShellWatch.SYNTAX_ERROR, 15);
+        Check.setup("shells ;", ShellWatch.SYNTAX_ERROR, 7);
+        Check.setup("shells 3;;", ShellWatch.SYNTAX_ERROR, 9);
+        Check.setup("shellsx 3;", ShellWatch.SYNTAX_ERROR, 0);
+        Check.setup("shellsz 3;", ShellWatch.SYNTAX_ERROR, 0);
+        Check.setup("shells{ 3;", ShellWatch.SYNTAX_ERROR, 6);
+        Check.setup("shells` 3;", ShellWatch.SYNTAX_ERROR, 6);
+        Check.setup("ball 1;shells 3;", ShellWatch.SYNTAX_ERROR, 0);
+        Check.setup("shells 3;shells 3;", ShellWatch.SYNTAX_ERROR, 9);
+        Check.setup("shells 3;steps 3;", ShellWatch.SYNTAX_ERROR, 9);
+        Check.setup("shells 3;swap 0 1;", ShellWatch.SYNTAX_ERROR, 9);
+        Check.setup("shells 3;3;", ShellWatch.SYNTAX_ERROR, 9);
+        Check.setup("shells 3;ball -1;", ShellWatch.SYNTAX_ERROR, 14);
+        Check.setup("shells 3;ball 1 2;", ShellWatch.SYNTAX_ERROR, 16);
+        Check.setup("shells 3;ball ball;", ShellWatch.SYNTAX_ERROR, 14);
+        Check.setup("shells 3;scratch;", ShellWatch.SYNTAX_ERROR, 16);
+        Check.setup("shells 3;scratch 0;scratch;", ShellWatch.SYNTAX_ERROR, 26);
+        Check.setup("shells 3;scratch 0;scratch ball;", ShellWatch.SYNTAX_ERROR, 27);
+        Check.setup("shells 3;blink 1;", ShellWatch.SYNTAX_ERROR, 16);
+        Check.setup("shells 3;blink 1 2 3;", ShellWatch.SYNTAX_ERROR, 19);
         for (String word : new String[] {"ball", "trust", "calm", "sly", "purse", "odds"}) {
-            setup("shells 3;" + word + " 1;" + word + " 1;", ShellWatch.SYNTAX_ERROR, 9 + word.length() + 3);
-            setup("shells 3;" + word + " 1;blink 1 1;" + word + " 99999;", ShellWatch.SYNTAX_ERROR,
+            Check.setup("shells 3;" + word + " 1;" + word + " 1;", ShellWatch.SYNTAX_ERROR, 9 + word.length() + 3);
+            Check.setup("shells 3;" + word + " 1;blink 1 1;" + word + " 99999;", ShellWatch.SYNTAX_ERROR,
                     9 + word.length() + 13);
-            setup("shells 3;" + word + ";", ShellWatch.SYNTAX_ERROR, 9 + word.length());
+            Check.setup("shells 3;" + word + ";", ShellWatch.SYNTAX_ERROR, 9 + word.length());
         }
-        setup("shells 1;", ShellWatch.OUT_OF_RANGE, 7);
-        setup("shells 9;", ShellWatch.OUT_OF_RANGE, 7);
-        setup("shells 9", ShellWatch.OUT_OF_RANGE, 7);
-        setup("shells 3;ball 3;", ShellWatch.OUT_OF_RANGE, 14);
-        setup("shells 3;scratch 0 3;", ShellWatch.OUT_OF_RANGE, 19);
-        setup("shells 3;trust 0;", ShellWatch.OUT_OF_RANGE, 15);
-        setup("shells 3;trust 100;", ShellWatch.OUT_OF_RANGE, 15);
-        setup("shells 3;calm 0;", ShellWatch.OUT_OF_RANGE, 14);
-        setup("shells 3;calm 10;", ShellWatch.OUT_OF_RANGE, 14);
-        setup("shells 3;sly 10;", ShellWatch.OUT_OF_RANGE, 13);
-        setup("shells 3;purse 10000;", ShellWatch.OUT_OF_RANGE, 15);
-        setup("shells 3;blink 10000 10000;", ShellWatch.OUT_OF_RANGE, 15);
-        setup("shells 3;blink 5 10000;", ShellWatch.OUT_OF_RANGE, 17);
-        setup("shells 3;blink 5 4;", ShellWatch.OUT_OF_RANGE, 17);
-        setup("shells 3;blink 10000 4 4;", ShellWatch.OUT_OF_RANGE, 15);
-        setup("shells 3;scratch 1 1;", ShellWatch.REPEATED, 19);
-        setup("shells 3;scratch 1;ball 2;scratch 0 2 01;", ShellWatch.REPEATED, 38);
-        setup("shells 3;scratch 1 1 9;", ShellWatch.REPEATED, 19);
-        setup("shells 3;scratch 9 1 1;", ShellWatch.OUT_OF_RANGE, 17);
-        setup("shells 3;" + times(8, "blink 1 1;") + "blink 1 1;", ShellWatch.TOO_MANY, 89);
-        setup("shells 3;" + times(8, "blink 1 1;") + "blink", ShellWatch.TOO_MANY, 89);
-        setup("shells 3;" + times(8, "blink 1 1;") + "blinks 1 1;", ShellWatch.SYNTAX_ERROR, 89);
+        Check.setup("shells 1;", ShellWatch.OUT_OF_RANGE, 7);
+        Check.setup("shells 9;", ShellWatch.OUT_OF_RANGE, 7);
+        Check.setup("shells 9", ShellWatch.OUT_OF_RANGE, 7);
+        Check.setup("shells 3;ball 3;", ShellWatch.OUT_OF_RANGE, 14);
+        Check.setup("shells 3;scratch 0 3;", ShellWatch.OUT_OF_RANGE, 19);
+        Check.setup("shells 3;trust 0;", ShellWatch.OUT_OF_RANGE, 15);
+        Check.setup("shells 3;trust 100;", ShellWatch.OUT_OF_RANGE, 15);
+        Check.setup("shells 3;calm 0;", ShellWatch.OUT_OF_RANGE, 14);
+        Check.setup("shells 3;calm 10;", ShellWatch.OUT_OF_RANGE, 14);
+        Check.setup("shells 3;sly 10;", ShellWatch.OUT_OF_RANGE, 13);
+        Check.setup("shells 3;purse 10000;", ShellWatch.OUT_OF_RANGE, 15);
+        Check.setup("shells 3;blink 10000 10000;", ShellWatch.OUT_OF_RANGE, 15);
+        Check.setup("shells 3;blink 5 10000;", ShellWatch.OUT_OF_RANGE, 17);
+        Check.setup("shells 3;blink 5 4;", ShellWatch.OUT_OF_RANGE, 17);
+        Check.setup("shells 3;blink 10000 4 4;", ShellWatch.OUT_OF_RANGE, 15);
+        Check.setup("shells 3;scratch 1 1;", ShellWatch.REPEATED, 19);
+        Check.setup("shells 3;scratch 1;ball 2;scratch 0 2 01;", ShellWatch.REPEATED, 38);
+        Check.setup("shells 3;scratch 1 1 9;", ShellWatch.REPEATED, 19);
+        Check.setup("shells 3;scratch 9 1 1;", ShellWatch.OUT_OF_RANGE, 17);
+        Check.setup("shells 3;" + Check.times(8, "blink 1 1;") + "blink 1 1;", ShellWatch.TOO_MANY, 89);
+        Check.setup("shells 3;" + Check.times(8, "blink 1 1;") + "blink", ShellWatch.TOO_MANY, 89);
+        Check.setup("shells 3;" + Check.times(8, "blink 1 1;") + "blinks 1 1;", ShellWatch.SYNTAX_ERROR, 89);
     }
 
     private static void oddsErrors() {
-        setup("shells 3;odds ((((1))));", 3, -1);
-        setup("shells 3;odds ((((1))))+((((2))))*((((3))));", 3, -1);
-        setup("shells 3;odds (((((1)))));", ShellWatch.TOO_DEEP, 18);
-        setup("shells 3;odds 1+(2*(3-(4/(5+(6)))));", ShellWatch.TOO_DEEP, 28);
-        setup("shells 3;odds ((((1(", ShellWatch.SYNTAX_ERROR, 19);
-        setup("shells 3;odds ((((;", ShellWatch.SYNTAX_ERROR, 18);
-        setup("shells 3;odds ((1);", ShellWatch.SYNTAX_ERROR, 18);
-        setup("shells 3;odds (1));", ShellWatch.SYNTAX_ERROR, 17);
-        setup("shells 3;odds ();", ShellWatch.SYNTAX_ERROR, 15);
-        setup("shells 3;odds 1+;", ShellWatch.SYNTAX_ERROR, 16);
-        setup("shells 3;odds +1;", ShellWatch.SYNTAX_ERROR, 14);
-        setup("shells 3;odds 1*-1;", ShellWatch.SYNTAX_ERROR, 16);
-        setup("shells 3;odds 1 2;", ShellWatch.SYNTAX_ERROR, 16);
-        setup("shells 3;odds 1 99999;", ShellWatch.SYNTAX_ERROR, 16);
-        setup("shells 3;odds ball;", ShellWatch.SYNTAX_ERROR, 14);
-        setup("shells 3;odds chance steps;", ShellWatch.SYNTAX_ERROR, 21);
-        setup("shells 3;odds 10000;", ShellWatch.OUT_OF_RANGE, 14);
-        setup("shells 3;odds 9999-10000", ShellWatch.OUT_OF_RANGE, 19);
-        setup("shells 3;odds 9999", ShellWatch.SYNTAX_ERROR, 18);
+        Check.setup("shells 3;odds ((((1))));", 3, -1);
+        Check.setup("shells 3;odds ((((1))))+((((2))))*((((3))));", 3, -1);
+        Check.setup("shells 3;odds (((((1)))));", ShellWatch.TOO_DEEP, 18);
+        Check.setup("shells 3;odds 1+(2*(3-(4/(5+(6)))));", ShellWatch.TOO_DEEP, 28);
+        Check.setup("shells 3;odds ((((1(", ShellWatch.SYNTAX_ERROR, 19);
+        Check.setup("shells 3;odds ((((;", ShellWatch.SYNTAX_ERROR, 18);
+        Check.setup("shells 3;odds ((1);", ShellWatch.SYNTAX_ERROR, 18);
+        Check.setup("shells 3;odds (1));", ShellWatch.SYNTAX_ERROR, 17);
+        Check.setup("shells 3;odds ();", ShellWatch.SYNTAX_ERROR, 15);
+        Check.setup("shells 3;odds 1+;", ShellWatch.SYNTAX_ERROR, 16);
+        Check.setup("shells 3;odds +1;", ShellWatch.SYNTAX_ERROR, 14);
+        Check.setup("shells 3;odds 1*-1;", ShellWatch.SYNTAX_ERROR, 16);
+        Check.setup("shells 3;odds 1 2;", ShellWatch.SYNTAX_ERROR, 16);
+        Check.setup("shells 3;odds 1 99999;", ShellWatch.SYNTAX_ERROR, 16);
+        Check.setup("shells 3;odds ball;", ShellWatch.SYNTAX_ERROR, 14);
+        Check.setup("shells 3;odds chance steps;", ShellWatch.SYNTAX_ERROR, 21);
+        Check.setup("shells 3;odds 10000;", ShellWatch.OUT_OF_RANGE, 14);
+        Check.setup("shells 3;odds 9999-10000", ShellWatch.OUT_OF_RANGE, 19);
+        Check.setup("shells 3;odds 9999", ShellWatch.SYNTAX_ERROR, 18);
         // As long as a buffer allows.
-        setup("shells 3;odds 1" + times(242, "+1") + ";", 3, -1);
+        Check.setup("shells 3;odds 1" + Check.times(242, "+1") + ";", 3, -1);
     }
 
     private static void errorsOfLoadChangeNothing() {
-        ShellWatch watch = Check.loaded("shells 4;ball 2;scratch 1;blink 0 3;odds 5;purse 7;");
+        Watch watch = Check.loaded("shells 4;ball 2;scratch 1;blink 0 3;odds 5;purse 7;");
         watch.swap(0, 2);
         long before = watch.checksum();
         Check.is("late error", Check.load(watch, "shells 8;ball 7;blink 1 1;odds 3;purse 1;sly 3;x"), -2);
@@ -230,25 +197,25 @@ final class TextTest {
     }
 
     private static void runsLengths() {
-        ShellWatch watch = new ShellWatch();
-        Check.refused("run(-1)", watch, ILLEGAL, () -> watch.run(-1));
-        Check.refused("run(1) of nothing", watch, ILLEGAL, () -> watch.run(1));
+        Watch watch = new Watch();
+        Check.refused("run(-1)", watch, ILLEGAL, x -> x.run(-1));
+        Check.refused("run(1) of nothing", watch, ILLEGAL, x -> x.run(1));
         Check.put(watch, "rest;rest;");
-        Check.refused("run(21)", watch, ILLEGAL, () -> watch.run(21));
+        Check.refused("run(21)", watch, ILLEGAL, x -> x.run(21));
         Check.is("buffer is unchanged", watch.run(10), 2);
-        Check.refused("buffer is empty", watch, ILLEGAL, () -> watch.run(1));
+        Check.refused("buffer is empty", watch, ILLEGAL, x -> x.run(1));
         Check.put(watch, "rest;rest;");
         Check.is("first bytes", watch.run(5), 1);
-        Check.refused("buffer is empty behind the first bytes", watch, ILLEGAL, () -> watch.run(1));
-        script("", 0, -1);
-        script("   ", 0, -1);
+        Check.refused("buffer is empty behind the first bytes", watch, ILLEGAL, x -> x.run(1));
+        Check.script("", 0, -1);
+        Check.script("   ", 0, -1);
     }
 
     private static void runsCommands() {
-        ShellWatch watch = Check.loaded("shells 3;sly 2;blink 3 9;");
+        Watch watch = Check.loaded("shells 3;sly 2;blink 3 9;");
         String text = "swap 0 1;feint1 2;peek 2;rest;steal 1;rest;plant 2;";
         Check.is("all commands", Check.run(watch, text), 7);
-        ShellWatch same = Check.loaded("shells 3;sly 2;blink 3 9;");
+        Watch same = Check.loaded("shells 3;sly 2;blink 3 9;");
         same.swap(0, 1);
         same.feint(1, 2);
         same.peek(2);
@@ -259,35 +226,35 @@ final class TextTest {
         Check.is("commands are as the methods", watch.checksum(), same.checksum());
         Check.is("a run is one change", watch.undo(), 1);
         Check.is("a run is undone whole", watch.state(1), 0);
-        script("repeat 20(rest;);", 20, -1);
-        script("repeat 3(repeat 2(rest;);swap 0 1;);", 9, -1);
-        script("repeat 2(repeat 3(repeat 4(rest;);););", 24, -1);
-        script("repeat 2();", 0, -1);
-        script("repeat 20(repeat 20(repeat 20();););rest;", 1, -1);
-        script("repeat 01 ( rest ; ) ;", 1, -1);
-        script("repeat1(rest;);swap0 1;", 2, -1);
-        ShellWatch order = new ShellWatch();
+        Check.script("repeat 20(rest;);", 20, -1);
+        Check.script("repeat 3(repeat 2(rest;);swap 0 1;);", 9, -1);
+        Check.script("repeat 2(repeat 3(repeat 4(rest;);););", 24, -1);
+        Check.script("repeat 2();", 0, -1);
+        Check.script("repeat 20(repeat 20(repeat 20();););rest;", 1, -1);
+        Check.script("repeat 01 ( rest ; ) ;", 1, -1);
+        Check.script("repeat1(rest;);swap0 1;", 2, -1);
+        Watch order = new Watch();
         Check.is("order of repeats", Check.run(order, "repeat 2(swap 0 1;repeat 2(swap 1 2;swap 0 1;););"), 10);
-        ShellWatch plain = new ShellWatch();
+        Watch plain = new Watch();
         Check.is("order without repeats", Check.run(plain, "swap 0 1;swap 1 2;swap 0 1;swap 1 2;swap 0 1;"
                 + "swap 0 1;swap 1 2;swap 0 1;swap 1 2;swap 0 1;"), 10);
         Check.is("repeats do the same", order.checksum(), plain.checksum());
     }
 
     private static void runsEndEarly() {
-        script("rest;swap 0 3;rest;", 1, -1);
-        script("rest;swap 1 1;rest;", 1, -1);
-        script("rest;feint 9999 0;rest;", 1, -1);
-        script("feint 2 2;rest;", 0, -1);
-        script("rest;steal 0;rest;", 1, -1);
-        script("rest;plant 0;rest;", 1, -1);
-        script("rest;peek 3;rest;", 1, -1);
-        script("peek 2;peek 9999;", 1, -1);
-        script("repeat 20(repeat 20(rest;););", 200, -1);
-        script("repeat 20(repeat 9(rest;);peek 0;);rest;", 200, -1);
-        script("repeat 20(repeat 9(rest;);peek 0;);swap 7 7;", 200, -1);
-        script("repeat 5(rest;repeat 5(rest;steal 0;););", 2, -1);
-        ShellWatch watch = Check.loaded("shells 3;sly 1;blink 0 9;");
+        Check.script("rest;swap 0 3;rest;", 1, -1);
+        Check.script("rest;swap 1 1;rest;", 1, -1);
+        Check.script("rest;feint 9999 0;rest;", 1, -1);
+        Check.script("feint 2 2;rest;", 0, -1);
+        Check.script("rest;steal 0;rest;", 1, -1);
+        Check.script("rest;plant 0;rest;", 1, -1);
+        Check.script("rest;peek 3;rest;", 1, -1);
+        Check.script("peek 2;peek 9999;", 1, -1);
+        Check.script("repeat 20(repeat 20(rest;););", 200, -1);
+        Check.script("repeat 20(repeat 9(rest;);peek 0;);rest;", 200, -1);
+        Check.script("repeat 20(repeat 9(rest;);peek 0;);swap 7 7;", 200, -1);
+        Check.script("repeat 5(rest;repeat 5(rest;steal 0;););", 2, -1);
+        Watch watch = Check.loaded("shells 3;sly 1;blink 0 9;");
         Check.is("no steal twice", Check.run(watch, "repeat 2(steal 0;);rest;"), 1);
         Check.is("the steal is done", watch.state(2), 3);
         Check.is("no steal of another shell", Check.run(watch, "plant 1;steal 0;"), 1);
@@ -299,56 +266,56 @@ final class TextTest {
     }
 
     private static void runErrors() {
-        script("swap 0 1", ShellWatch.SYNTAX_ERROR, 8);
-        script("swap 0 1  ", ShellWatch.SYNTAX_ERROR, 10);
-        script("rest", ShellWatch.SYNTAX_ERROR, 4);
-        script("rest;;", ShellWatch.SYNTAX_ERROR, 5);
-        script(";", ShellWatch.SYNTAX_ERROR, 0);
-        script("swap 0;", ShellWatch.SYNTAX_ERROR, 6);
-        script("swap 0 1 2;", ShellWatch.SYNTAX_ERROR, 9);
-        script("rest 1;", ShellWatch.SYNTAX_ERROR, 5);
-        script("steal;", ShellWatch.SYNTAX_ERROR, 5);
-        script("plant 1 1;", ShellWatch.SYNTAX_ERROR, 8);
-        script("bet 1 1;", ShellWatch.SYNTAX_ERROR, 0);
-        script("scratch 1;", ShellWatch.SYNTAX_ERROR, 0);
-        script("shells 3;", ShellWatch.SYNTAX_ERROR, 0);
-        script("swaprest;", ShellWatch.SYNTAX_ERROR, 0);
-        script("rest;)", ShellWatch.SYNTAX_ERROR, 5);
-        script("repeat 2 rest;", ShellWatch.SYNTAX_ERROR, 9);
-        script("repeat (rest;);", ShellWatch.SYNTAX_ERROR, 7);
-        script("repeat 2(rest);", ShellWatch.SYNTAX_ERROR, 13);
-        script("repeat 2(rest;)", ShellWatch.SYNTAX_ERROR, 15);
-        script("repeat 2(rest;", ShellWatch.SYNTAX_ERROR, 14);
-        script("repeat 2(rest;;);", ShellWatch.SYNTAX_ERROR, 14);
-        script("rest;\0", ShellWatch.SYNTAX_ERROR, 5);
-        script("swap 9999 9999;", 0, -1);
-        script("swap 10000 0;", ShellWatch.OUT_OF_RANGE, 5);
-        script("swap 0 10000;", ShellWatch.OUT_OF_RANGE, 7);
-        script("peek 99999999999;", ShellWatch.OUT_OF_RANGE, 5);
-        script("repeat 0(rest;);", ShellWatch.OUT_OF_RANGE, 7);
-        script("repeat 21(rest;);", ShellWatch.OUT_OF_RANGE, 7);
-        script("repeat 21 rest", ShellWatch.OUT_OF_RANGE, 7);
-        script("rest;rest;peek 10000", ShellWatch.OUT_OF_RANGE, 15);
-        script(times(60, "rest;"), 60, -1);
-        script(times(61, "rest;"), ShellWatch.TOO_MANY, 300);
-        script(times(60, "rest;") + "x;", ShellWatch.SYNTAX_ERROR, 300);
-        script("repeat 2(" + times(59, "rest;") + ");", 118, -1);
-        script("repeat 2(" + times(60, "rest;") + ");", ShellWatch.TOO_MANY, 304);
-        script(times(60, "rest;") + "repeat 2();", ShellWatch.TOO_MANY, 300);
-        script("repeat 1(repeat 1(repeat 1(repeat 1(rest;););););", ShellWatch.TOO_DEEP, 27);
-        script("repeat 1(repeat 1(repeat 1(rest;repeat", ShellWatch.TOO_DEEP, 32);
-        script("repeat 1(repeat 1(repeat 1();repeat 1(););repeat 1(););repeat 1();", 0, -1);
+        Check.script("swap 0 1", ShellWatch.SYNTAX_ERROR, 8);
+        Check.script("swap 0 1  ", ShellWatch.SYNTAX_ERROR, 10);
+        Check.script("rest", ShellWatch.SYNTAX_ERROR, 4);
+        Check.script("rest;;", ShellWatch.SYNTAX_ERROR, 5);
+        Check.script(";", ShellWatch.SYNTAX_ERROR, 0);
+        Check.script("swap 0;", ShellWatch.SYNTAX_ERROR, 6);
+        Check.script("swap 0 1 2;", ShellWatch.SYNTAX_ERROR, 9);
+        Check.script("rest 1;", ShellWatch.SYNTAX_ERROR, 5);
+        Check.script("steal;", ShellWatch.SYNTAX_ERROR, 5);
+        Check.script("plant 1 1;", ShellWatch.SYNTAX_ERROR, 8);
+        Check.script("bet 1 1;", ShellWatch.SYNTAX_ERROR, 0);
+        Check.script("scratch 1;", ShellWatch.SYNTAX_ERROR, 0);
+        Check.script("shells 3;", ShellWatch.SYNTAX_ERROR, 0);
+        Check.script("swaprest;", ShellWatch.SYNTAX_ERROR, 0);
+        Check.script("rest;)", ShellWatch.SYNTAX_ERROR, 5);
+        Check.script("repeat 2 rest;", ShellWatch.SYNTAX_ERROR, 9);
+        Check.script("repeat (rest;);", ShellWatch.SYNTAX_ERROR, 7);
+        Check.script("repeat 2(rest);", ShellWatch.SYNTAX_ERROR, 13);
+        Check.script("repeat 2(rest;)", ShellWatch.SYNTAX_ERROR, 15);
+        Check.script("repeat 2(rest;", ShellWatch.SYNTAX_ERROR, 14);
+        Check.script("repeat 2(rest;;);", ShellWatch.SYNTAX_ERROR, 14);
+        Check.script("rest;\0", ShellWatch.SYNTAX_ERROR, 5);
+        Check.script("swap 9999 9999;", 0, -1);
+        Check.script("swap 10000 0;", ShellWatch.OUT_OF_RANGE, 5);
+        Check.script("swap 0 10000;", ShellWatch.OUT_OF_RANGE, 7);
+        Check.script("peek 99999999999;", ShellWatch.OUT_OF_RANGE, 5);
+        Check.script("repeat 0(rest;);", ShellWatch.OUT_OF_RANGE, 7);
+        Check.script("repeat 21(rest;);", ShellWatch.OUT_OF_RANGE, 7);
+        Check.script("repeat 21 rest", ShellWatch.OUT_OF_RANGE, 7);
+        Check.script("rest;rest;peek 10000", ShellWatch.OUT_OF_RANGE, 15);
+        Check.script(Check.times(60, "rest;"), 60, -1);
+        Check.script(Check.times(61, "rest;"), ShellWatch.TOO_MANY, 300);
+        Check.script(Check.times(60, "rest;") + "x;", ShellWatch.SYNTAX_ERROR, 300);
+        Check.script("repeat 2(" + Check.times(59, "rest;") + ");", 118, -1);
+        Check.script("repeat 2(" + Check.times(60, "rest;") + ");", ShellWatch.TOO_MANY, 304);
+        Check.script(Check.times(60, "rest;") + "repeat 2();", ShellWatch.TOO_MANY, 300);
+        Check.script("repeat 1(repeat 1(repeat 1(repeat 1(rest;););););", ShellWatch.TOO_DEEP, 27);
+        Check.script("repeat 1(repeat 1(repeat 1(rest;repeat", ShellWatch.TOO_DEEP, 32);
+        Check.script("repeat 1(repeat 1(repeat 1();repeat 1(););repeat 1(););repeat 1();", 0, -1);
         // A repeat that is both the 61st and inside 3 others
-        script("repeat 1(repeat 1(repeat 1(" + times(57, "rest;") + "repeat", ShellWatch.TOO_MANY, 312);
-        script("repeat 1(repeat 1(repeat 1(" + times(56, "rest;") + "repeat", ShellWatch.TOO_DEEP, 307);
+        Check.script("repeat 1(repeat 1(repeat 1(" + Check.times(57, "rest;") + "repeat", ShellWatch.TOO_MANY, 312);
+        Check.script("repeat 1(repeat 1(repeat 1(" + Check.times(56, "rest;") + "repeat", ShellWatch.TOO_DEEP, 307);
     }
 
     private static void errorOffsets() {
-        ShellWatch watch = new ShellWatch();
+        Watch watch = new Watch();
         Check.is("no call", watch.errorOffset(), -1);
         Check.run(watch, "rest;x");
         Check.is("an error of run", watch.errorOffset(), 5);
-        Check.refused("a call that throws", watch, ILLEGAL, () -> watch.load(1));
+        Check.refused("a call that throws", watch, ILLEGAL, x -> x.load(1));
         Check.is("behind a call that threw", watch.errorOffset(), 5);
         watch.append(0, 0, 0, 0, 0);
         watch.rest();
